@@ -26,6 +26,7 @@ public final class SpillForge {
     private static final int READ_LINES = READ_ROWS + BLOCKS;
     private static final int LINES = READ_LINES + REGISTERS + PLACES;
     private static final int WORDS = (NAMES + 63) / 64;
+    // Above all that can be listed: 160 ROWS of 33 bytes, 100 of 8, 620 loads and stores of 14, 40 blocks of 28.
     private static final int LISTING_BYTES = 16384;
 
     // What a line of a program does; the first fourteen are in the order of OP_SIGNS.
@@ -1401,7 +1402,6 @@ public final class SpillForge {
                 }
             }
             for (int v = 0; v < REGISTERS; v++) {
-                slotOf[v] = NONE;
                 if (colouring.isWithout(v)) {
                     slotOf[v] = slots;
                     slots++;

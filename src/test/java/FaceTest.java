@@ -25,7 +25,7 @@ public final class FaceTest {
         }
         for (Method m : SpillForge.class.getDeclaredMethods()) {
             if (!Modifier.isPrivate(m.getModifiers()) && !m.isSynthetic()) {
-                visible.add(m.toString().replace("SpillForge.", "").replace("java.util.", "").replace("java.lang.", ""));
+                visible.add(m.toString().replaceAll("SpillForge\\.|java\\.util\\.|java\\.lang\\.", ""));
             }
         }
         for (Field f : SpillForge.class.getDeclaredFields()) {
