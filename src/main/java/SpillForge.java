@@ -1758,7 +1758,7 @@ public final class SpillForge {
             }
             long rest = Math.abs((long) number);
             long unit = 1;
-            while (unit <= rest / 10) {
+            for (int n = 0; n < 9 && unit <= rest / 10; n++) {
                 unit *= 10;
             }
             for (int n = 0; n < 10 && unit > 0; n++) {

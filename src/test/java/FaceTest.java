@@ -84,12 +84,12 @@ public final class FaceTest {
         before = bean.getThreadAllocatedBytes(thread);
         int sum = use(x);
         long used = bean.getThreadAllocatedBytes(thread) - before;
-        Forge.due("500 calls (" + sum + ") make " + used + " bytes", used < 2000, true);
+        Forge.due("250 calls (" + sum + ") make " + used + " bytes", used < 2000, true);
     }
 
     private static int use(SpillForge x) {
         int sum = 0;
-        for (int n = 0; n < 100; n++) {
+        for (int n = 0; n < 50; n++) {
             sum += x.give(2) + x.run(true, 1000) + x.list(true) + x.count(5) + (int) x.word(n % 50);
         }
         return sum;

@@ -21,13 +21,7 @@ final class Forge {
     }
 
     static void throwsDue(String what, Class<? extends RuntimeException> kind, Call call) {
-        Object got;
-        try {
-            got = call.make();
-        } catch (RuntimeException e) {
-            got = e.getClass();
-        }
-        due(what, got, kind);
+        due(what, answer(call), kind);
     }
 
     /** The last thing a test does. */
@@ -83,21 +77,74 @@ final class Forge {
     }
 
     static String result(SpillForge x) {
+        return result(x, 0, x.count(4));
+    }
+
+    static String result(SpillForge x, int from, int to) {
         StringBuilder all = new StringBuilder();
-        for (int i = 0; i < x.count(4); i++) {
-            all.append((char) (x.word(i) >>> 56));
+        for (int i = from; i < to; i += 8) {
+            long eight = x.word(i);
+            for (int k = i; k < i + 8 && k < to; k++) {
+                all.append((char) (eight >>> 56));
+                eight <<= 8;
+            }
         }
         return all.toString();
     }
 
+    /** What the latest run told, and its shows; of many the first and the last ones. */
     static String told(SpillForge x) {
         StringBuilder all = new StringBuilder();
         for (int what = 0; what <= 4; what++) {
             all.append(x.told(what)).append(' ');
         }
-        for (int i = 0; i < x.told(1); i++) {
-            all.append(x.shown(i)).append(' ');
+        int shows = x.told(1);
+        for (int i = 0; i < shows; i++) {
+            if (isAsked(i, shows)) {
+                all.append(x.shown(i)).append(' ');
+            }
         }
         return all.toString().trim();
+    }
+
+    static boolean isAsked(int i, int shows) {
+        return i < 60 || i >= shows - 40;
+    }
+
+    /** The answer, or the class of what was thrown. */
+    static Object answer(Call call) {
+        try {
+            return call.make();
+        } catch (RuntimeException e) {
+            return e.getClass();
+        }
+    }
+
+    /** The same text n times. */
+    static String times(int n, String text) {
+        StringBuilder all = new StringBuilder();
+        for (int i = 0; i < n; i++) {
+            all.append(text);
+        }
+        return all.toString();
+    }
+
+    /** Checks that a text is right, and what its listing is. */
+    static void right(String text, String listing) {
+        SpillForge x = new SpillForge();
+        due("text " + text, read(x, text), -1);
+        due("reason of " + text, x.count(2), 0);
+        due("tape behind " + text, x.count(3), 0);
+        due("listing of " + text, answer(() -> list(x, false)), listing);
+    }
+
+    /** Checks where and why a text is wrong. */
+    static void wrong(String text, int place, int reason) {
+        SpillForge x = new SpillForge();
+        due("text " + text, read(x, text), place);
+        due("reason of " + text, x.count(2), reason);
+        due("tape behind " + text, x.count(3), 0);
+        due("blocks of " + text, x.count(0), 0);
+        throwsDue("list of " + text, IllegalStateException.class, () -> x.list(false));
     }
 }

@@ -92,36 +92,19 @@ public final class PromiseTest {
         Forge.due("end(0)", x.end(0), 0);
     }
 
-    private static void right(String text, String listing) {
-        SpillForge x = new SpillForge();
-        Forge.due("text " + text, Forge.read(x, text), -1);
-        Forge.due("reason of " + text, x.count(2), 0);
-        Forge.due("tape behind " + text, x.count(3), 0);
-        Forge.due("listing of " + text, Forge.list(x, false), listing);
-    }
-
-    private static void wrong(String text, int place, int reason) {
-        SpillForge x = new SpillForge();
-        Forge.due("text " + text, Forge.read(x, text), place);
-        Forge.due("reason of " + text, x.count(2), reason);
-        Forge.due("tape behind " + text, x.count(3), 0);
-        Forge.due("blocks of " + text, x.count(0), 0);
-        Forge.throwsDue("list of " + text, STATE, () -> x.list(false));
-    }
-
     private static void rightTexts() {
-        right("b0:ret 1", "b0:\nret 1\n");
-        right("\t\r\n b0\t:\r\n ret\n1 ", "b0:\nret 1\n");
-        right("; v1\nb0;:\n:;\nret;x\n1;the end", "b0:\nret 1\n");
-        right("b0:v1=v2v3=4show v1show5ret v3b1:ret 1b2:ret2",
+        Forge.right("b0:ret 1", "b0:\nret 1\n");
+        Forge.right("\t\r\n b0\t:\r\n ret\n1 ", "b0:\nret 1\n");
+        Forge.right("; v1\nb0;:\n:;\nret;x\n1;the end", "b0:\nret 1\n");
+        Forge.right("b0:v1=v2v3=4show v1show5ret v3b1:ret 1b2:ret2",
                 "b0:\nv1 = v2\nv3 = 4\nshow v1\nshow 5\nret v3\nb1:\nret 1\nb2:\nret 2\n");
-        right("b0: v1=v2+v3 v1=v2*3 v1=4/v3 v1=v2%v3 v1=v2&v3 v1=v2|v3 v1=v2^v3 jump b1 b1: ret v1",
+        Forge.right("b0: v1=v2+v3 v1=v2*3 v1=4/v3 v1=v2%v3 v1=v2&v3 v1=v2|v3 v1=v2^v3 jump b1 b1: ret v1",
                 "b0:\nv1 = v2 + v3\nv1 = v2 * 3\nv1 = 4 / v3\nv1 = v2 % v3\nv1 = v2 & v3\nv1 = v2 | v3\n"
                 + "v1 = v2 ^ v3\njump b1\nb1:\nret v1\n");
-        right("b0: v1=v2<<v3 v1=v2>>v3 v1=v2<v3 v1=v2<=v3 v1=v2==v3 v1=v2!=v3 v0=in if v1b1b1 b1:ret 0",
+        Forge.right("b0: v1=v2<<v3 v1=v2>>v3 v1=v2<v3 v1=v2<=v3 v1=v2==v3 v1=v2!=v3 v0=in if v1b1b1 b1:ret 0",
                 "b0:\nv1 = v2 << v3\nv1 = v2 >> v3\nv1 = v2 < v3\nv1 = v2 <= v3\nv1 = v2 == v3\nv1 = v2 != v3\n"
                 + "v0 = in\nif v1 b1 b1\nb1:\nret 0\n");
-        right("b00: v00099 = 2147483647 v007 = -2147483648 v1 = -0 ret 000000000000000000012",
+        Forge.right("b00: v00099 = 2147483647 v007 = -2147483648 v1 = -0 ret 000000000000000000012",
                 "b0:\nv99 = 2147483647\nv7 = -2147483648\nv1 = 0\nret 12\n");
         StringBuilder most = new StringBuilder("b0:");
         for (int n = 0; n < 160; n++) {
@@ -136,85 +119,85 @@ public final class PromiseTest {
     }
 
     private static void minusSigns() {
-        right("b0: v1 = v2 -3 v1 = v2-3 v1 = 2-3 v1 = -2 -3 ret -1",
+        Forge.right("b0: v1 = v2 -3 v1 = v2-3 v1 = 2-3 v1 = -2 -3 ret -1",
                 "b0:\nv1 = v2 - 3\nv1 = v2 - 3\nv1 = 2 - 3\nv1 = -2 - 3\nret -1\n");
-        right("b0: v1 = v2--3 v1 = v2 - -3 v1 = v2 +-3 v1 = v2<-3 show -3 if -3 b1 b1 b1: ret-3",
+        Forge.right("b0: v1 = v2--3 v1 = v2 - -3 v1 = v2 +-3 v1 = v2<-3 show -3 if -3 b1 b1 b1: ret-3",
                 "b0:\nv1 = v2 - -3\nv1 = v2 - -3\nv1 = v2 + -3\nv1 = v2 < -3\nshow -3\nif -3 b1 b1\nb1:\nret -3\n");
-        right("b0: v1 = v2 ; a remark\n -3 ret v1", "b0:\nv1 = v2 - 3\nret v1\n");
-        right("b0: v1 = 5 - 2147483647 ret 0", "b0:\nv1 = 5 - 2147483647\nret 0\n");
-        wrong("b0: v1 = - 3 ret v1", 9, 1);
-        wrong("b0: v1 = 5 -2147483648 ret 0", 12, 1);
-        wrong("b0: ret 1 -1", 10, 1);
-        wrong("b0: ret -", 8, 1);
+        Forge.right("b0: v1 = v2 ; a remark\n -3 ret v1", "b0:\nv1 = v2 - 3\nret v1\n");
+        Forge.right("b0: v1 = 5 - 2147483647 ret 0", "b0:\nv1 = 5 - 2147483647\nret 0\n");
+        Forge.wrong("b0: v1 = - 3 ret v1", 9, 1);
+        Forge.wrong("b0: v1 = 5 -2147483648 ret 0", 12, 1);
+        Forge.wrong("b0: ret 1 -1", 10, 1);
+        Forge.wrong("b0: ret -", 8, 1);
     }
 
     private static void wrongSigns() {
-        wrong("", 0, 1);
-        wrong("  ; nothing", 11, 1);
-        wrong("b0", 2, 1);
-        wrong("b0: ", 4, 1);
-        wrong("b0: v1", 6, 1);
-        wrong("b0: v1 = v2 ", 12, 1);
-        wrong("b0: v1 = v2 +", 13, 1);
-        wrong("b0: if 1 b0 ;", 13, 1);
-        wrong("ret 1", 0, 1);
-        wrong("b0: ret", 7, 1);
-        wrong("b0: ret 1 ret 2", 10, 1);
-        wrong("b0: ret b0", 8, 1);
-        wrong("b0: jump 1", 9, 1);
-        wrong("b0: v1 == 2", 7, 1);
-        wrong("b0: v1 = show", 9, 1);
-        wrong("b0: v1 = in + 1 ret 1", 12, 1);
-        wrong("b0: show in ret 1", 9, 1);
-        wrong("b0: v1 = v2 > v3", 12, 1);
-        wrong("b0: v1 = v2 >= v3", 12, 1);
-        wrong("b0: v1 = v2 ! v3", 12, 1);
-        wrong("b0: v1 = v2 <<= v3", 14, 1);
-        wrong("b0: v100 = 1", 4, 1);
-        wrong("b0: v99999999999999999999999999 = 1", 4, 1);
-        wrong("b0: jump b40", 9, 1);
-        wrong("b40: ret 1", 0, 1);
-        wrong("b0: ret 2147483648", 8, 1);
-        wrong("b0: ret -2147483649", 8, 1);
-        wrong("b0: ret 18446744073709551617", 8, 1);
-        wrong("b0: retv1", 4, 1);
-        wrong("b0: ret v", 8, 1);
-        wrong("b0: ret b", 8, 1);
-        wrong("b0: ret vv1", 8, 1);
-        wrong("b0: Ret 1", 4, 1);
-        wrong("b0: ret 1\u00e9", 9, 1);
-        wrong("b0: ret 1\u0000", 9, 1);
-        wrong("b0: v1 = v2 retx 1", 12, 1);
-        wrong("b0: jump b0 ; and no sign behind it\n.", 36, 1);
-        wrong("b1: ret 1 b0: jump b0 x", 22, 1);
+        Forge.wrong("", 0, 1);
+        Forge.wrong("  ; nothing", 11, 1);
+        Forge.wrong("b0", 2, 1);
+        Forge.wrong("b0: ", 4, 1);
+        Forge.wrong("b0: v1", 6, 1);
+        Forge.wrong("b0: v1 = v2 ", 12, 1);
+        Forge.wrong("b0: v1 = v2 +", 13, 1);
+        Forge.wrong("b0: if 1 b0 ;", 13, 1);
+        Forge.wrong("ret 1", 0, 1);
+        Forge.wrong("b0: ret", 7, 1);
+        Forge.wrong("b0: ret 1 ret 2", 10, 1);
+        Forge.wrong("b0: ret b0", 8, 1);
+        Forge.wrong("b0: jump 1", 9, 1);
+        Forge.wrong("b0: v1 == 2", 7, 1);
+        Forge.wrong("b0: v1 = show", 9, 1);
+        Forge.wrong("b0: v1 = in + 1 ret 1", 12, 1);
+        Forge.wrong("b0: show in ret 1", 9, 1);
+        Forge.wrong("b0: v1 = v2 > v3", 12, 1);
+        Forge.wrong("b0: v1 = v2 >= v3", 12, 1);
+        Forge.wrong("b0: v1 = v2 ! v3", 12, 1);
+        Forge.wrong("b0: v1 = v2 <<= v3", 14, 1);
+        Forge.wrong("b0: v100 = 1", 4, 1);
+        Forge.wrong("b0: v99999999999999999999999999 = 1", 4, 1);
+        Forge.wrong("b0: jump b40", 9, 1);
+        Forge.wrong("b40: ret 1", 0, 1);
+        Forge.wrong("b0: ret 2147483648", 8, 1);
+        Forge.wrong("b0: ret -2147483649", 8, 1);
+        Forge.wrong("b0: ret 18446744073709551617", 8, 1);
+        Forge.wrong("b0: retv1", 4, 1);
+        Forge.wrong("b0: ret v", 8, 1);
+        Forge.wrong("b0: ret b", 8, 1);
+        Forge.wrong("b0: ret vv1", 8, 1);
+        Forge.wrong("b0: Ret 1", 4, 1);
+        Forge.wrong("b0: ret 1\u00e9", 9, 1);
+        Forge.wrong("b0: ret 1\u0000", 9, 1);
+        Forge.wrong("b0: v1 = v2 retx 1", 12, 1);
+        Forge.wrong("b0: jump b0 ; and no sign behind it\n.", 36, 1);
+        Forge.wrong("b1: ret 1 b0: jump b0 x", 22, 1);
     }
 
     private static void brokenRules() {
-        wrong("b1: ret 1", 0, 2);
-        wrong("b0: ret 1 b2: ret 2", 10, 2);
-        wrong("b0: ret 1 b0: ret 2", 10, 2);
-        wrong("b0: jump b1", 9, 3);
-        wrong("b0: jump b0", 9, 3);
-        wrong("b0: if 1 b1 b2 b1: ret 1", 12, 3);
-        wrong("b0: if 1 b1 b0 b1: ret 1", 12, 3);
-        wrong("b0: jump b5 b2: ret 1", 9, 3);
-        wrong("b0: jump b2 b2: ret 1", 12, 2);
-        wrong("b0: jump b1 b3: jump b9 b1: ret 1", 12, 2);
+        Forge.wrong("b1: ret 1", 0, 2);
+        Forge.wrong("b0: ret 1 b2: ret 2", 10, 2);
+        Forge.wrong("b0: ret 1 b0: ret 2", 10, 2);
+        Forge.wrong("b0: jump b1", 9, 3);
+        Forge.wrong("b0: jump b0", 9, 3);
+        Forge.wrong("b0: if 1 b1 b2 b1: ret 1", 12, 3);
+        Forge.wrong("b0: if 1 b1 b0 b1: ret 1", 12, 3);
+        Forge.wrong("b0: jump b5 b2: ret 1", 9, 3);
+        Forge.wrong("b0: jump b2 b2: ret 1", 12, 2);
+        Forge.wrong("b0: jump b1 b3: jump b9 b1: ret 1", 12, 2);
         StringBuilder rows = new StringBuilder("b0:");
         for (int n = 0; n < 161; n++) {
             rows.append("\nv1=v1");
         }
-        wrong(rows + " ret 1", 4 + 160 * 6, 4);
-        wrong(rows + " v2 = 5 show 1 jump b7", 4 + 160 * 6, 4);
-        wrong(rows + " ret 1 b5: ret 1", 4 + 160 * 6, 4);
-        wrong("b0: jump b9 b1:" + rows.substring(3) + " ret 1", 9, 3);
-        wrong("b0: jump b1 b1: jump b1 b1:" + rows.substring(3) + " ret 1", 24, 2);
-        wrong(rows + " ret", rows.length() + 4, 1);
+        Forge.wrong(rows + " ret 1", 4 + 160 * 6, 4);
+        Forge.wrong(rows + " v2 = 5 show 1 jump b7", 4 + 160 * 6, 4);
+        Forge.wrong(rows + " ret 1 b5: ret 1", 4 + 160 * 6, 4);
+        Forge.wrong("b0: jump b9 b1:" + rows.substring(3) + " ret 1", 9, 3);
+        Forge.wrong("b0: jump b1 b1: jump b1 b1:" + rows.substring(3) + " ret 1", 24, 2);
+        Forge.wrong(rows + " ret", rows.length() + 4, 1);
         StringBuilder many = new StringBuilder();
         for (int n = 0; n < 500; n++) {
             many.append("b").append(Math.min(n, 39)).append(": jump b1 ");
         }
-        wrong(many.toString(), 10 * 12 + 30 * 13, 2);
+        Forge.wrong(many.toString(), 10 * 12 + 30 * 13, 2);
     }
 
     private static void textKeepsAndTakesAway() {

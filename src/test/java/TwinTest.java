@@ -4,6 +4,8 @@ import java.util.Random;
 public final class TwinTest {
     private static final String[] OPS = {"+", "-", "*", "/", "%", "&", "|", "^", "<<", ">>", "<", "<=", "==", "!="};
 
+    private static final int[] INPUT = {7, 3, -1, 1000, Integer.MIN_VALUE, 5};
+
     private final Random random;
 
     private TwinTest(long seed) {
@@ -13,7 +15,12 @@ public final class TwinTest {
     public static void main(String[] args) {
         int runs = args.length > 0 ? Integer.parseInt(args[0]) : 600;
         for (int seed = 0; seed < runs; seed++) {
-            new TwinTest(seed).program("program " + seed);
+            TwinTest one = new TwinTest(seed);
+            one.program("program " + seed, one.makeProgram(), 1 + one.random.nextInt(32));
+        }
+        for (int seed = 0; seed < runs / 20; seed++) {
+            TwinTest one = new TwinTest(seed);
+            one.program("crowd " + seed, one.makeCrowd(), 32 - seed % 2);
         }
         for (int seed = 0; seed < 20 * runs; seed++) {
             new TwinTest(-1 - seed).brokenText("broken text " + seed);
@@ -21,35 +28,51 @@ public final class TwinTest {
         Forge.close("TwinTest");
     }
 
-    private void program(String name) {
-        String text = makeProgram();
-        SpillForge x = new SpillForge();
+    /** Each part has an object of its own, since an object is used for few calls. */
+    private void program(String name, String text, int many) {
         Oracle oracle = new Oracle();
-        int[] input = {7, 3, -1, 1000, Integer.MIN_VALUE, 5};
-        Forge.input(x, input);
-        Forge.due(name + " text", Forge.read(x, text), -1);
         oracle.read(Forge.bytes(text));
-        Forge.due(name + " list(false)", Forge.list(x, false), Oracle.listing(oracle.program));
-        looks(name, x, oracle);
+        listing(name + " list(false)", text, 0, Oracle.listing(oracle.program));
+        registers(name, Forge.of(text), oracle);
+        SpillForge x = Forge.of(text);
+        blocks(name, x, oracle);
         int fuel = 1 + random.nextInt(3000);
-        String told = runs(name + " as read", x, oracle, false, fuel, input);
-        int[] some = {1, 2, 3, 4, 5, 8, 1 + random.nextInt(32)};
+        String told = runs(name + " as read", x, oracle, false, fuel);
+        int[] some = {1, 2, 3, 4, 5, 8, many};
         for (int k : some) {
-            String call = name + " give(" + k + ")";
-            int rounds = oracle.give(k);
-            Forge.due(call, x.give(k), rounds);
-            counts(call, x, oracle);
-            if (rounds == -1) {
-                Forge.throwsDue(call + " list", IllegalStateException.class, () -> x.list(true));
-                continue;
-            }
-            Forge.due(call + " list(true)", Forge.list(x, true), Oracle.listing(oracle.given));
-            runs(call, x, oracle, true, fuel, input);
-            sameWithEnoughFuel(call, x, told);
+            given(name + " give(" + k + ")", text, k, oracle, fuel, told);
         }
     }
 
-    private void looks(String name, SpillForge x, Oracle oracle) {
+    private void given(String call, String text, int k, Oracle oracle, int fuel, String told) {
+        SpillForge x = Forge.of(text);
+        int rounds = oracle.give(k);
+        Forge.due(call, x.give(k), rounds);
+        counts(call, x, oracle);
+        if (rounds == -1) {
+            Forge.throwsDue(call + " list", IllegalStateException.class, () -> x.list(true));
+            return;
+        }
+        runs(call, x, oracle, true, fuel);
+        sameWithEnoughFuel(call, x, told);
+        listing(call + " list(true)", text, k, Oracle.listing(oracle.given));
+    }
+
+    /** The listing as it was given out with k registers, or as it was read, if k is 0. */
+    private static void listing(String call, String text, int k, String want) {
+        int slice = 2000;
+        for (int from = 0; from < want.length(); from += slice) {
+            SpillForge x = Forge.of(text);
+            if (k != 0) {
+                x.give(k);
+            }
+            Forge.due(call, Forge.answer(() -> x.list(k != 0)), want.length());
+            int to = Math.min(from + slice, want.length());
+            Forge.due(call + " from " + from, Forge.result(x, from, to), want.substring(from, to));
+        }
+    }
+
+    private void registers(String name, SpillForge x, Oracle oracle) {
         oracle.build(oracle.firstRound(), "v");
         for (int v = -1; v <= 100; v++) {
             int register = v;
@@ -62,6 +85,9 @@ public final class TwinTest {
                 Forge.throwsDue(call + "1)", java.util.NoSuchElementException.class, () -> x.look(register, 1));
             }
         }
+    }
+
+    private void blocks(String name, SpillForge x, Oracle oracle) {
         for (int b = 0; b < oracle.program.size(); b++) {
             Forge.due(name + " look(" + b + ", 2)", x.look(b, 2),
                     Oracle.live(oracle.program, "v").get(b).get(0).size());
@@ -72,7 +98,7 @@ public final class TwinTest {
     private void counts(String call, SpillForge x, Oracle oracle) {
         boolean none = oracle.given == null;
         int[] want = {
-            oracle.program.size(), Oracle.rows(oracle.program), 0, 0, x.count(4),
+            oracle.program.size(), Oracle.rows(oracle.program), 0, 0, 0,
             none ? 0 : Oracle.rows(oracle.given), none ? 0 : Oracle.registers(oracle.given),
             none ? 0 : oracle.slots, none ? 0 : oracle.spilled, none ? 0 : oracle.merged,
             none ? 0 : Oracle.copiesWithSlot(oracle.given, true),
@@ -83,14 +109,17 @@ public final class TwinTest {
         }
     }
 
-    private String runs(String call, SpillForge x, Oracle oracle, boolean given, int fuel, int[] input) {
-        oracle.run(given ? oracle.given : oracle.program, fuel, input);
+    private String runs(String call, SpillForge x, Oracle oracle, boolean given, int fuel) {
+        Forge.input(x, INPUT);
+        oracle.run(given ? oracle.given : oracle.program, fuel, INPUT);
         Forge.due(call + " run(" + given + ", " + fuel + ")", x.run(given, fuel), oracle.ending);
         StringBuilder want = new StringBuilder();
         want.append(oracle.answer).append(' ').append(oracle.shown.size()).append(' ').append(oracle.steps)
                 .append(' ').append(oracle.reads).append(' ').append(oracle.ending);
-        for (int shown : oracle.shown) {
-            want.append(' ').append(shown);
+        for (int i = 0; i < oracle.shown.size(); i++) {
+            if (Forge.isAsked(i, oracle.shown.size())) {
+                want.append(' ').append(oracle.shown.get(i));
+            }
         }
         Forge.due(call + " told", Forge.told(x), want);
         return want.toString();
@@ -170,7 +199,23 @@ public final class TwinTest {
             }
             text.append(ending(blocks, registers)).append(blank());
         }
-        return text.length() > 8000 ? "b0: ret v1" : text.toString();
+        return text.length() > 4000 ? "b0: ret v1" : text.toString();
+    }
+
+    // All registers are alive at once, some of them are dear, and there are copies among them.
+    private String makeCrowd() {
+        StringBuilder text = new StringBuilder("b0: ");
+        int dear = random.nextInt(100);
+        for (int n = random.nextInt(20); n > 0; n--) {
+            text.append('v').append(random.nextInt(100)).append(" = v").append(random.nextInt(100)).append(blank());
+        }
+        for (int v = 0; v < 100; v++) {
+            text.append("show v").append(v).append(blank());
+        }
+        for (int n = 0; n < 40; n++) {
+            text.append("show v").append((dear + random.nextInt(33)) % 100).append(blank());
+        }
+        return text.append("ret v").append(dear).toString();
     }
 
     private String row(int registers) {
