@@ -28,6 +28,7 @@ public final class GiveEdgesTest {
         sharesSlots();
         fortyRounds();
         allHundredRegisters();
+        crowds();
         largestProgram();
         givesOfWhatWasRead();
         countsWithoutRegisters();
@@ -348,17 +349,32 @@ public final class GiveEdgesTest {
     }
 
     private static void allHundredRegisters() {
+        String text = showAll() + "ret 0";
+        looks(text, 0, Forge.times(100, "2 ") + "-");
+        looks(text, 1, Forge.times(100, "99 ") + "-");
+        looks(text, 2, "100 -");
+        // Round 1 spills v0 to v67, round 2 v68, since a TEMPORARY is alive with the other 32.
+        given(text, 32, 3, null, 338, 32, 69, 69, 0, 69, 69);
+        given(text, 1, 3, null, 400, 1, 100, 100, 0, 100, 100);
+    }
+
+    private static String showAll() {
         StringBuilder text = new StringBuilder("b0: ");
         for (int v = 0; v < 100; v++) {
             text.append("show v").append(v).append(' ');
         }
-        text.append("ret 0");
-        looks(text.toString(), 0, Forge.times(100, "2 ") + "-");
-        looks(text.toString(), 1, Forge.times(100, "99 ") + "-");
-        looks(text.toString(), 2, "100 -");
-        // Round 1 spills v0 to v67, round 2 v68, since a TEMPORARY is alive with the other 32.
-        given(text.toString(), 32, 3, null, 338, 32, 69, 69, 0, 69, 69);
-        given(text.toString(), 1, 3, null, 400, 1, 100, 100, 0, 100, 100);
+        return text.toString();
+    }
+
+    private static void crowds() {
+        for (int dear : new int[] {0, 1, 31, 32, 33, 62, 63, 64, 67, 68}) {
+            StringBuilder text = new StringBuilder(showAll());
+            for (int v = dear; v < dear + 32; v++) {
+                text.append("show v").append(v).append(' ');
+            }
+            // Round 1 spills all but the 32 dear ones, round 2 the first of these.
+            listed(text + "ret 0", 32, 371, 32, 69, 69, 0, 70, 69);
+        }
     }
 
     /** All places for registers are used, all registers are alive everywhere, and all are SPILLED. */
@@ -377,16 +393,21 @@ public final class GiveEdgesTest {
     }
 
     private static void largestProgram() {
+        listed(largest(), 2, 160 + 100 + 360 + 260, 2, 100, 100, 0, 360, 260);
+    }
+
+    /** Too long for one object's calls and for a test's line: the listing is the oracle's. */
+    private static void listed(String text, int k, int... counts) {
         Oracle oracle = new Oracle();
-        oracle.read(Forge.bytes(largest()));
-        int rounds = oracle.give(2);
+        oracle.read(Forge.bytes(text));
+        Forge.due("the oracle's ROUNDS of " + text, oracle.give(k), 3);
         String listing = Oracle.listing(oracle.given);
         int slice = 2000;
         for (int from = 0; from < listing.length(); from += slice) {
-            SpillForge x = given(largest(), 2, rounds, null, 160 + 100 + 360 + 260, 2, 100, 100, 0, 360, 260);
-            Forge.due("the length of the largest listing", x.list(true), listing.length());
+            SpillForge x = given(text, k, 3, null, counts);
+            Forge.due("the listing's length of " + text, x.list(true), listing.length());
             int to = Math.min(from + slice, listing.length());
-            Forge.due("the largest listing from " + from, Forge.result(x, from, to), listing.substring(from, to));
+            Forge.due("the listing of " + text, Forge.result(x, from, to), listing.substring(from, to));
         }
     }
 
